@@ -117,6 +117,14 @@ public final class AskTest {
         mayBe("another family", x, 5, "11111111111111111111");
         x.lay(1, 14);
         mayBe("from both", x, 4, "11111111011100000111");
+        x.lift(1);
+        x.lift(0);
+        x.lay(0, 0);
+        mayBe("from the first slot", x, 1, "00011111111111111111");
+        x.lift(0);
+        x.lay(0, 19);
+        mayBe("from the last slot", x, 1, "11111111111111111000");
+        Check.rules(x, "");
     }
 
     private static void mayRest() {
@@ -132,6 +140,9 @@ public final class AskTest {
         mayBe("between", x, 2, "11100011111111111111");
         x.lay(2, 6);
         mayBe("at the ends of two", x, 3, "11100000111111111111");
+        x.lift(0);
+        mayBe("ahead of two", x, 3, "11110000111111111111");
+        x.lay(0, 3);
         due("17 two ahead", x.lay(3, 8), 1);
         mayBe("between two and one", x, 4, "11100000011111111111");
         mayBe("another teacher", x, 6, "11111111111111111111");
@@ -141,6 +152,16 @@ public final class AskTest {
             x.lay(f, f);
         }
         due("16 rest 0 is no rule", x.about(5, 3), 5);
+        x = new ParentEve();
+        Check.rules(x, "rest 2;");
+        for (int f = 0; f < 5; f++) {
+            x.ask(f, 0, false);
+        }
+        x.lay(0, 1);
+        x.lay(1, 2);
+        x.lay(2, 17);
+        x.lay(3, 18);
+        mayBe("at the first and the last slot", x, 4, "00001111111111110000");
         x = new ParentEve();
         Check.rules(x, "rest 1;");
         x.ask(0, 0, false);
@@ -214,6 +235,17 @@ public final class AskTest {
         due("19", x.layAll(), 7);
         slots("19 musts, years, numbers", x, 3, 2, 1, 6, 0, 4, 0);
         due("19 nothing left", x.layAll(), 0);
+        // MUSTS by YEARS, and a MUST without ahead of others with
+        x = new ParentEve();
+        x.wish(0, 0, 19, 9);
+        x.wish(2, 0, 19, 1);
+        x.wish(3, 0, 19, 9);
+        x.ask(0, 0, false);
+        x.ask(1, 0, true);
+        x.ask(2, 0, true);
+        x.ask(3, 0, true);
+        due("19", x.layAll(), 4);
+        slots("19 musts by years", x, 3, 2, 1, 0);
         x = new ParentEve();
         x.teacher(0, 4, 6);
         x.wish(0, 6, 9, 0);
@@ -310,6 +342,16 @@ public final class AskTest {
         due("20 between", x.best(12), 2);
         slots("20 between", x, 6, 9, 7, 8);
         due("23 none", x.waits(0), 0);
+        // in the first slot and in the last
+        x = new ParentEve();
+        x.wish(0, 0, 0, 3);
+        x.wish(1, 19, 19, 3);
+        x.ask(0, 0, false);
+        x.ask(1, 0, false);
+        x.lay(0, 0);
+        x.lift(0);
+        due("20 first and last", x.best(3), 2);
+        slots("20 first and last", x, 0, 19);
         // points of all, the years with them
         x = new ParentEve();
         x.teacher(0, 8, 9);
@@ -333,6 +375,13 @@ public final class AskTest {
         due("21 moved", x.settle(), 1);
         slots("21 the first of the best", x, 4);
         due("21 none better", x.settle(), 0);
+        x = new ParentEve();
+        x.family(0, 0, 0, 0);
+        x.family(1, 19, 19, 0);
+        x.ask(0, 0, false);
+        x.ask(1, 0, false);
+        due("21 in the first slot and the last", x.settle(), 2);
+        slots("21 in the first slot and the last", x, 0, 19);
         // a move that makes WAITS fewer, points or not
         x = new ParentEve();
         x.wish(0, 9, 9, 9);

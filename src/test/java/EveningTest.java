@@ -153,6 +153,18 @@ public final class EveningTest {
             due("32 as known at " + i, x.meeting(0, i, 3), 10 + i % 7);
         }
         due("35 none", x.messages(0), 0);
+        // the last of all asks, with the last telling
+        x = new ParentEve();
+        for (int i = 0; i < 40; i++) {
+            x.ask(i % 15, i / 15, false);
+        }
+        x.lay(39, 1);
+        x.begin();
+        for (int i = 1; i <= 80; i++) {
+            x.over(0, 39, i % 60);
+        }
+        due("32 the last of all", x.meeting(39, 0, 0), 10);
+        due("32 the last of all", x.meeting(39, 0, 1), 40);
     }
 
     private static void overs() {
@@ -205,6 +217,17 @@ public final class EveningTest {
         x.comes(2, 0, 0);
         x.comes(2, 1, 35);
         starts("32 the latest", x, 2, 10, 35);
+        x = new ParentEve();
+        x.ask(14, 9, false);
+        x.lay(0, 0);
+        x.begin();
+        x.comes(0, 14, 8);
+        starts("32 of the last family", x, 0, 8);
+        due("42 the last end", x.count(6), 18);
+        x.over(1, 0, 6);
+        due("42 the last end", x.count(6), 24);
+        x.away(2, 9, 8, 12);
+        starts("32 of the last teacher", x, 2, 13);
         // a family that may come from slot 3 on, met at last ahead of it
         x = new ParentEve();
         Check.policy(x, 0, "when here is 0 do swap;");
@@ -231,6 +254,8 @@ public final class EveningTest {
         x.away(3, 1, 0, 799);
         starts("32 another one's", x, 3, 21, 31);
         starts("32 ahead of it", x, 0, 5, 15);
+        x.follow(0, 1);
+        starts("32 ahead of it, run through anew", x, 0, 5, 15);
         // away for long: the first look is late
         x = row(2, 0);
         x.away(0, 0, 0, 99);
@@ -243,6 +268,7 @@ public final class EveningTest {
         ParentEve x = new ParentEve();
         Check.rules(x, "slot 10; floor 3; door 1;");
         x.room(1, 1, 2);
+        x.room(2, 1, 0);
         x.ask(0, 0, false);
         x.ask(0, 1, false);
         x.ask(0, 2, false);
@@ -255,8 +281,10 @@ public final class EveningTest {
         starts("32 seven minutes' walk", x, 1, 0, 27, 44);
         x.over(2, 0, 30);
         x.over(2, 1, 60);
-        starts("32 from the latest teacher", x, 2, 0, -1, 40);
+        starts("32 from the latest teacher", x, 2, 0, -1, 41);
         due("32 its end", x.meeting(0, 2, 1), 40);
+        x.follow(0, 3);
+        starts("32 run through anew", x, 0, 0, 20, 40);
     }
 
     private static void interpreters() {
@@ -275,6 +303,18 @@ public final class EveningTest {
         x.over(0, 0, 5);
         starts("32 waits for the interpreter", x, 0, 0, 15, 10, 10);
         due("32 its end", x.meeting(0, 0, 1), 15);
+        for (int tongue = 0; tongue < 4; tongue++) {
+            x = new ParentEve();
+            x.family(5, 0, 19, tongue);
+            x.family(14, 0, 19, tongue);
+            x.ask(5, 8, false);
+            x.ask(14, 9, false);
+            x.lay(0, 0);
+            x.lay(1, 1);
+            x.begin();
+            x.over(0, 0, 7);
+            starts("32 tongue " + tongue, x, 0, 0, tongue == 0 ? 10 : 17);
+        }
     }
 
     private static void order() {
@@ -368,6 +408,10 @@ public final class EveningTest {
         under("when waiting is 0 do wait;when waiting is 1 and must is 0 do skip;", -1, 11, -1);
         under("when waiting above 1 do skip;", -1, 13, 23);
         // who isn't here isn't counted, nor whose slot is to come
+        String eight = "when slot is 9 do skip;".repeat(7);
+        under(eight + "when late is 0 do pause 3;", 12, 22, 32);
+        under(eight + "when here is 1 do short 3;", 12, 15, 20);
+        under(eight + "when here is 0 do skip;", -1, 10, 20);
         ParentEve x = rowUnder("when waiting is 2 do skip;", 4, 0);
         x.comes(0, 0, 15);
         x.comes(0, 1, 25);
@@ -442,6 +486,12 @@ public final class EveningTest {
         due("33 not begun", x.off(0), -4);
         due("33 range first", x.off(800), -2);
         x = row(3, 0);
+        x.over(15, 0, 4);
+        due("33 asked for at once", x.off(1), 8);
+        x = row(2, 2);
+        x.absent(15, 0, true);
+        due("33 the first ask, too", x.off(1), 30 + 7);
+        x = row(3, 0);
         due("33 nothing told", x.off(0), 0);
         due("33 no minute", x.off(-1), -2);
         due("33 no minute", x.off(800), -2);
@@ -512,6 +562,14 @@ public final class EveningTest {
         x.comes(30, 1, 200);
         due("35 begun already: nothing", x.messages(1), 2);
         due("35 no meeting", x.messages(14), 0);
+        // the first two told at one minute
+        x = row(2, 1);
+        x.over(0, 0, 9);
+        due("35 one told", x.messages(1), 1);
+        x.over(0, 0, 1);
+        due("35 one told otherwise at the same minute", x.messages(1), 0);
+        x.over(0, 0, 30);
+        due("35 a third", x.messages(1), 1);
         // another one is next
         x = new ParentEve();
         x.ask(0, 0, false);
@@ -531,6 +589,14 @@ public final class EveningTest {
         ParentEve x = new ParentEve();
         due("36 not begun", x.mend(0), -4);
         due("36 range first", x.mend(800), -2);
+        x = row(3, 0);
+        x.absent(0, 0, true);
+        due("36 asked for at once", x.mend(1), 1);
+        due("22 the first slot", x.about(0, 3), 3);
+        x = row(1, 5);
+        x.absent(0, 0, true);
+        due("36 behind all slots", x.mend(799), 1);
+        due("22 none any more", x.about(0, 3), -1);
         x = row(3, 0);
         due("36 none missed", x.mend(0), 0);
         due("36 no minute", x.mend(-1), -2);

@@ -46,6 +46,7 @@ public final class NoteTest {
         due("42 notes", x.count(8), 2);
         due("37 empty", Check.note(x, 0, ""), -1);
         due("37 a byte 31", Check.note(x, 0, "a\037b"), -1);
+        due("37 a first byte 31", Check.note(x, 0, "\037b"), -1);
         due("37 a byte 127", Check.note(x, 0, "a\177b"), -1);
         due("37 a byte 10", Check.note(x, 0, "a\n"), -1);
         due("37 a byte 200", Check.note(x, 0, "a\310"), -1);
@@ -62,6 +63,16 @@ public final class NoteTest {
         due("39 no ask", x.read(0, -1, 0), -2);
         due("39 no teacher", x.read(10, 0, 0), -2);
         due("39 no teacher", x.read(-1, 0, 0), -2);
+        for (int i = 3; i < 40; i++) {
+            x.ask(i % 15, 1 + i / 15, false);
+        }
+        due("37 of the last", Check.note(x, 39, "last one"), 8);
+        reads("39 of the last", x, 3, 39, "last one");
+        due("38 of the last", x.let(39, 9, true), 1);
+        due("40 of the last", Check.find(x, 9, "one"), 1);
+        due("41 of the last", x.found(0), 39);
+        due("42 notes", x.count(8), 4);
+        due("37 no ask", Check.note(x, 40, "abc"), -2);
         x.begin();
         due("37 in the evening", Check.note(x, 0, "late"), 4);
         reads("37 in the evening", x, 0, 0, "late");
@@ -135,6 +146,12 @@ public final class NoteTest {
         Check.note(x, 1, "a".repeat(20) + "!" + "q".repeat(21));
         due("40 longest", Check.find(x, 0, "A".repeat(20)), 1);
         due("40 longest in a longer one", Check.find(x, 0, "q".repeat(20)), 0);
+        Check.note(x, 1, "w");
+        due("40 one letter alone", Check.find(x, 0, "W"), 1);
+        Check.note(x, 1, "(start) 1end");
+        due("40 behind a sign", Check.find(x, 0, "start"), 1);
+        due("40 behind a digit", Check.find(x, 0, "end"), 1);
+        due("40 a first letter more", Check.find(x, 0, "tend"), 0);
         due("40 the other's alone", Check.find(x, 9, "maths"), 1);
         founds(x, "41 the other's alone", 2);
     }

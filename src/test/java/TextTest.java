@@ -125,6 +125,9 @@ public final class TextTest {
         fault("slot ;", 1, 5);
         fault("slots 5;", 1, 0);
         fault("slo 5;", 1, 0);
+        fault("alot 5;", 1, 0);
+        fault("slat 5;", 1, 0);
+        fault("sloth 5;", 1, 0);
         fault("Slot 5;", 1, 0);
         fault("\tslot 5;", 1, 0);
         fault("slot\r5;", 1, 4);
@@ -203,6 +206,10 @@ public final class TextTest {
         due("8 place of '" + text + "'", x.fault(1), place);
         due("6 stays", x.count(12), 2);
         due("6 the tape is empty", x.count(7), 0);
+        due("6 mended", Check.policy(x, 2, "when late above 1 do skip;when late is 0 do full;when late is 1 do swap;"), 3);
+        due("8 no fault", x.fault(0), 0);
+        due("8 no place", x.fault(1), -1);
+        due("42 lines", x.count(12), 3);
     }
 
     private static void policyFaults() {
