@@ -25,6 +25,7 @@ public final class EdgeTest {
         layAll();
         best();
         bestValues();
+        bestGivesWay();
         settle();
         value();
         CHECK.end("EdgeTest");
@@ -708,6 +709,48 @@ public final class EdgeTest {
         x.ask(1, 0, false);
         due("20 one", x.best(3), 1);
         slots("20 19 is less than 20", x, 19, -1);
+    }
+
+    /** What comes first in the row gives way, though all that comes behind it adds as much as one ASK can. */
+    private static void bestGivesWay() {
+        // to one that MAY be laid in a single SLOT, the first or the last one
+        for (int only : new int[] {0, 19}) {
+            ParentEve x = new ParentEve();
+            x.family(0, only, only, 0);
+            x.wish(1, only, only, 9);
+            x.ask(1, 0, false);
+            x.ask(0, 0, false);
+            due("20 both", x.best(3), 2);
+            slots("20 the first one elsewhere", x, only == 0 ? 1 : 0, only);
+        }
+        // three that MAY be in 0 .. 2, 0 .. 1, 0 alone
+        ParentEve x = new ParentEve();
+        for (int f = 0; f < 3; f++) {
+            x.family(f, 0, 2 - f, 0);
+            x.ask(f, 0, false);
+        }
+        due("20 three", x.best(7), 3);
+        slots("20 three", x, 2, 1, 0);
+        // two of one FAMILY between its others: as many WAITS wherever they are, a few POINTS more where it wishes
+        for (int years = 0; years < 10; years++) {
+            x = new ParentEve();
+            x.wish(0, 2, 3, years);
+            for (int t = 0; t < 4; t++) x.ask(0, t, false);
+            x.lay(0, 0);
+            x.lay(1, 4);
+            due("20 two between", x.best(12), 2);
+            slots("20 both where it wishes", x, 0, 4, 2, 3);
+            due("24 waits", x.value(2), 1);
+            due("24 points", x.value(3), 2 * (1 + years));
+        }
+        // three of one FAMILY in a gap of four, the first SLOT no wish
+        x = new ParentEve();
+        x.wish(0, 2, 4, 0);
+        for (int t = 0; t < 5; t++) x.ask(0, t, t > 2);
+        x.lay(0, 0);
+        x.lay(1, 5);
+        due("20 three between", x.best(28), 3);
+        slots("20 all three where it wishes", x, 0, 5, 2, 3, 4);
     }
 
     private static void settle() {

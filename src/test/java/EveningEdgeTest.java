@@ -29,6 +29,7 @@ public final class EveningEdgeTest {
         mendMany();
         mendSlots();
         mendRows();
+        fortyMeetings();
         CHECK.end("EveningEdgeTest");
     }
 
@@ -936,6 +937,44 @@ public final class EveningEdgeTest {
         // 4 the interpreter, 5 and 6 the teacher, 7 rest, 10 and 12 the walk
         due("36 from slot 4 on", x.mend(31), 1);
         slots("36 as near as it may be", x, 9, 2, 4, 11, 5, 6);
+    }
+
+    /** As many ASKS as there can be, all LAID: a is of family a % 15 for teacher a / 15, in SLOT (both added) % 15. */
+    private static void fortyMeetings() {
+        ParentEve x = new ParentEve();
+        for (int a = 0; a < 40; a++) due("15 ask", x.ask(a % 15, a / 15, a % 2 == 0), a);
+        due("15 no more", x.ask(0, 3, false), -3);
+        for (int a = 0; a < 40; a++) due("17 lay", x.lay(a, (a % 15 + a / 15) % 15), 1);
+        due("27 forty", x.begin(), 40);
+        due("24 musts", x.value(0), 20);
+        due("24 asks", x.value(1), 40);
+        for (int a = 0; a < 40; a++) due("32 start of " + a, x.meeting(a, 0, 0), 10 * x.about(a, 3));
+        due("33 nothing told", x.off(0), 0);
+        due("42 missed", x.count(5), 0);
+        due("42 last end", x.count(6), 150);
+        // the first meeting takes 7 minutes longer: all but it and the one of family 14 in SLOT 0 begin as much later
+        due("28", x.over(3, 0, 1), 1);
+        due("28", x.over(3, 0, 7), 2);
+        for (int a = 0; a < 40; a++) due("32 later: " + a, x.meeting(a, 3, 0), 10 * x.about(a, 3) + (x.about(a, 3) == 0 ? 0 : 7));
+        due("33 as known at 2", x.off(2), 38 * 7);
+        due("33 as known at 3", x.off(3), 0);
+        due("42 last end", x.count(6), 157);
+        for (int f = 0; f < 15; f++) {
+            due("34 next of " + f, x.next(f, 3), f == 0 ? 15 : f == 14 ? 14 : f);
+            due("34 none behind all", x.next(f, 150), -1);
+            due("35 messages to " + f, x.messages(f), 1);
+        }
+        // told when no meeting is to come: no message, to none
+        due("28", x.over(799, 39, 60), 3);
+        for (int f = 0; f < 15; f++) due("35 no more of them to " + f, x.messages(f), 1);
+        // the last ASK of all is mended
+        due("29", x.absent(799, 39, true), 4);
+        due("42 missed", x.count(5), 1);
+        due("33 one of forty", x.off(3), 30);
+        due("36 the last ask", x.mend(799), 1);
+        due("32 none any more", x.meeting(39, 0, 0), -4);
+        due("42 laid", x.count(1), 39);
+        due("42 missed", x.count(5), 0);
     }
 
     private static void slots(String name, ParentEve x, int... row) {
